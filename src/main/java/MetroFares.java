@@ -206,7 +206,6 @@ public final class MetroFares {
     }
 
     public int chargeIfTappedOut(int card, int station) throws IndexOutOfBoundsException, NoSuchElementException {
-        requireCard(card);
         requireStation(station);
         requireTrip(card);
         return now.cards[card].tripCharge(now.line, station, now.presentDay());
@@ -286,7 +285,7 @@ public final class MetroFares {
     }
 
     public int incompleteShareBits() throws ArithmeticException {
-        return bitsOfFloat(incompleteShare());
+        return bitsOfShare(incompleteShare());
     }
 
     public boolean isConsistent() {
@@ -502,16 +501,13 @@ public final class MetroFares {
         return ((long) (exponent + 1023) << 52) | fraction;
     }
 
-    private static int bitsOfFloat(float value) {
-        if (value <= 0.0f) {
+    // A share is at most 1, so it only ever needs to be doubled.
+    private static int bitsOfShare(float share) {
+        if (share <= 0.0f) {
             return 0;
         }
-        float scaled = value;
+        float scaled = share;
         int exponent = 0;
-        for (int i = 0; i < 300 && scaled >= 2.0f; i++) {
-            scaled = scaled / 2.0f;
-            exponent++;
-        }
         for (int i = 0; i < 300 && scaled < 1.0f; i++) {
             scaled = scaled * 2.0f;
             exponent--;
@@ -653,7 +649,6 @@ public final class MetroFares {
             unrepaired = false;
             for (int i = 0; i < DAYS_KEPT; i++) {
                 sumDays[i] = NONE;
-                sums[i] = 0;
             }
             latestEntry = null;
         }

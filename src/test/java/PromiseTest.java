@@ -446,7 +446,9 @@ public final class PromiseTest {
         check.same("setFares", 999, x.setFares(0, 0));
         check.same("setFares: base", 0, x.baseFare());
         check.same("setFares: default", 0, x.defaultFare());
-        int[][] wrong = {{-1, 0}, {1000, 0}, {0, -1}, {0, 100}, {1000, 100}, {Integer.MIN_VALUE, 0}, {0, Integer.MAX_VALUE}};
+        int[][] wrong = {
+            {-1, 0}, {1000, 0}, {0, -1}, {0, 100}, {1000, 100}, {Integer.MIN_VALUE, 0}, {0, Integer.MAX_VALUE},
+        };
         for (int[] fares : wrong) {
             check.refused("setFares: " + fares[0] + " " + fares[1], ARGUMENT, () -> x.setFares(fares[0], fares[1]));
         }
@@ -996,7 +998,10 @@ public final class PromiseTest {
         check.same("runScript: fix", "4", run(x, "in 0 5;in 0 6;fix 0 5;out 0 6"));
         check.same("runScript: paid", 250, x.paidBackTotal());
         check.same("runScript: one", "1", run(x, "wait 2000"));
-        check.same("runScript: full buffer", "8", run(x, "wait 1;wait 1;wait 1;wait 1;wait 1;wait 1;wait 1;wait 000001".replace("000001", "0001")));
+        typeAll(x, "wait 1;wait 1;wait 1;wait 1;wait 1;wait 1;wait 1;zone 0001 2");
+        check.refused("runScript: full buffer", STATE, () -> x.type(';'));
+        check.same("runScript: full buffer", 8, x.runScript());
+        check.same("runScript: full buffer", 2, x.zone(1));
         check.refused("runScript: empty", ARGUMENT, x::runScript);
         check.same("runScript: empty", 0, x.errorPosition());
         check.same("runScript: nothing left in the buffer", 1, x.type('w'));
