@@ -1,20 +1,30 @@
 import java.util.concurrent.Callable;
 
 /** Counts and prints what is not as due. */
-final class Check {
+class Check {
+    private String about = "";
     private int wrong;
     private int done;
+
+    /** What the next checks are about; it is printed with each one that fails. */
+    void about(String what) {
+        about = what + " | ";
+    }
 
     void same(String what, Object due, Object got) {
         done++;
         if (!due.equals(got)) {
             wrong++;
-            System.out.println(what + ": due is " + due + ", got " + got);
+            System.out.println(about + what + ": due is " + due + ", got " + got);
         }
     }
 
     void refused(String what, Class<? extends RuntimeException> due, Callable<?> call) {
-        same(what, "throws " + due.getName(), answerOf(call));
+        same(what, thrown(due), answerOf(call));
+    }
+
+    static String thrown(Class<? extends RuntimeException> kind) {
+        return "throws " + kind.getName();
     }
 
     /** The answer as a text, or "throws " and the exact name of what was thrown. */
@@ -24,6 +34,10 @@ final class Check {
         } catch (Exception e) {
             return "throws " + e.getClass().getName();
         }
+    }
+
+    int done() {
+        return done;
     }
 
     void finish(String name) {

@@ -852,7 +852,7 @@ public final class PromiseTest {
         mean(x, 2 + 220, 4, 2);
         x.repair(0, 5);
         mean(x, 222, 4, 2);
-        for (int i = 0; i < 60; i++) {
+        for (int i = 0; i < 40; i++) {
             x.setFares(i % 3 == 0 ? 1 : 0, 0);
             x.tapIn(1, i % 12);
             if (i % 2 == 0) {
@@ -871,7 +871,7 @@ public final class PromiseTest {
         y.setFares(1, 0);
         y.tapOut(0, 0);
         y.setFares(0, 0);
-        for (int trips = 2; trips < 150; trips++) {
+        for (int trips = 2; trips < 40; trips++) {
             y.tapIn(0, 0);
             y.tapOut(0, 0);
             mean(y, 1, trips, 0);

@@ -7,7 +7,7 @@ import java.util.TreeMap;
 
 /** Long mixed runs of calls, each answer compared with the one of Reference. The runs are the same each time. */
 public final class ReferenceTest {
-    private static final int RUNS = 120;
+    private static final int RUNS = 1000;
     private static final int CALLS = 512;
     private static final String[] WORDS = {"card ", "load ", "in ", "out ", "fix ", "zone ", "wait "};
     private static final String[] STATIC_QUERIES = {
@@ -60,10 +60,13 @@ public final class ReferenceTest {
         reference = new Reference();
         told = new ArrayList<>();
         isRight = true;
-        for (int i = 0; i < CALLS && isRight; i++) {
+        for (int card = 0; run % 8 == 3 && card < 8; card++) {
+            ask("issueCard", pick(2) == 0);
+        }
+        while (told.size() < CALLS && isRight) {
             step(run);
-            if (i % 16 == 15) {
-                lookAtAll();
+            for (int i = pick(8); i > 0; i--) {
+                look();
             }
         }
         check.same("run " + run, true, isRight);
@@ -79,7 +82,7 @@ public final class ReferenceTest {
     }
 
     private void ask(String name, Object... args) {
-        if (!isRight) {
+        if (!isRight || told.size() >= CALLS) {
             return;
         }
         String due = Check.answerOf(() -> reference.call(name, args));
@@ -103,8 +106,12 @@ public final class ReferenceTest {
         }
     }
 
+    private int known(String name) {
+        return (int) reference.call(name);
+    }
+
     private int someCard() {
-        int count = object.cardCount();
+        int count = known("cardCount");
         return pick(25) == 0 || count == 0 ? oneOf(-1, count, 8, 9) : pick(count);
     }
 
@@ -130,7 +137,7 @@ public final class ReferenceTest {
     private void step(int run) {
         switch (pick(run % 4 == 0 ? 26 : 23)) {
             case 0:
-                if (pick(4) == 0 || object.cardCount() < 2) {
+                if (pick(4) == 0 || known("cardCount") < 2) {
                     ask("issueCard", pick(2) == 0);
                 }
                 break;
@@ -223,7 +230,7 @@ public final class ReferenceTest {
 
     private String command() {
         String word = WORDS[pick(WORDS.length)];
-        int card = pick(15) == 0 ? pick(10) : pick(Math.max(1, object.cardCount()));
+        int card = pick(15) == 0 ? pick(10) : pick(Math.max(1, known("cardCount")));
         switch (word) {
             case "card ":
                 return pick(3) == 0 ? word + (pick(2) == 0 ? "f" : "r") : "wait 1";
@@ -238,37 +245,40 @@ public final class ReferenceTest {
         }
     }
 
-    private void lookAtAll() {
-        for (String name : STATIC_QUERIES) {
-            ask(name);
+    private void look() {
+        switch (pick(7)) {
+            case 0:
+                ask(STATIC_QUERIES[pick(STATIC_QUERIES.length)]);
+                break;
+            case 1:
+                ask(CARD_QUERIES[pick(CARD_QUERIES.length)], someCard());
+                break;
+            case 2:
+                ask(PAIR_QUERIES[pick(PAIR_QUERIES.length)], someCard(), someStation());
+                break;
+            case 3:
+                ask(DAY_QUERIES[pick(DAY_QUERIES.length)], someCard(), known("day") + 1 - pick(5));
+                break;
+            case 4:
+                ask(LINE_QUERIES[pick(LINE_QUERIES.length)], pick(14) - 1, pick(14) - 1);
+                break;
+            case 5:
+                ask(RANK_QUERIES[pick(RANK_QUERIES.length)], pick(14) - 1);
+                break;
+            default:
+                lookAtOutput();
+                break;
         }
-        for (int card = -1; card <= object.cardCount(); card++) {
-            for (String name : CARD_QUERIES) {
-                ask(name, card);
-            }
-            for (String name : PAIR_QUERIES) {
-                ask(name, card, pick(14) - 1);
-            }
-            for (String name : DAY_QUERIES) {
-                for (int back = -1; back <= 3; back++) {
-                    ask(name, card, object.day() - back);
-                }
-            }
-        }
-        for (int i = -1; i <= 12; i++) {
-            for (String name : RANK_QUERIES) {
-                ask(name, i);
-            }
-            for (String name : LINE_QUERIES) {
-                ask(name, i, pick(14) - 1);
-            }
-        }
-        ask("renderCard", someCard());
-        if (pick(2) == 0) {
+    }
+
+    private void lookAtOutput() {
+        if (pick(3) == 0) {
             ask("renderZones");
+        } else {
+            ask("renderCard", someCard());
         }
-        for (int i = -1; i < 18; i++) {
-            ask("outputAt", i);
+        for (int i = pick(4); i > 0; i--) {
+            ask("outputAt", pick(14) - 1);
         }
     }
 }
