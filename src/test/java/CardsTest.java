@@ -433,8 +433,8 @@ final class CardsTest {
         return text.toString();
     }
 
-    @Says(promise = 34, value = "Returns the card at a rank when cards are sorted by what has been charged on the present day "
-            + "in descending order, then by balance in ascending order, then by index in ascending order.")
+    @Says(promise = 34, value = "Returns the card at a rank when cards are sorted by what has been charged on the present "
+            + "day in descending order, then by balance in ascending order, then by index in ascending order.")
     static void cardBySpending(Probe p) {
         MetroFares x = Metros.with("ffff");
         p.same("by index", "0123", cardsBySpending(x));

@@ -21,8 +21,8 @@ final class OutputTest {
         p.refused("end of " + due, INDEX, () -> x.outputAt(due.length()));
     }
 
-    @Says(promise = 45, value = "Replaces the output text by a description of a card: its index, \"f\" or \"r\", \":\" and its "
-            + "balance, and then \"@\" and the station where its trip began if it is on a trip, as in \"2r:-150@7\".")
+    @Says(promise = 45, value = "Replaces the output text by a description of a card: its index, \"f\" or \"r\", \":\" and "
+            + "its balance, and then \"@\" and the station where its trip began if it is on a trip, as in \"2r:-150@7\".")
     static void renderCard(Probe p) {
         MetroFares x = Metros.with("frrfffff");
         cardShown(p, x, 0, "0f:0");
@@ -229,30 +229,26 @@ final class OutputTest {
         return View.brief(x) + View.undone(x);
     }
 
+    /** The sign ^ stands before the first character that cannot continue a script. */
     @Says(promise = 49, value = "Throws `IllegalArgumentException` if the script does not have the required form; "
             + "errorPosition then returns its error position")
     static void wrongForm(Probe p) {
-        String[] texts = {
-            "", " ", "w", "wait", "wait ", "wait x", "wait 1 ", "wait 1;", "wait 1;;", "wait 1,", "wait 12345", "wait -1",
-            "Wait 1", "card", "card ", "card g", "card ff", "card f ", "card f;r", "load 0", "load 0 ", "load 00 1",
-            "load x 1", "load 0 x", "in 0", "in 0 ", "in 10 1", "in 0 1 ", "im", "out", "out 0 1o", "ot", "fix 0", "fix 0 -",
-            "fox", "zone 1", "zone 1 ", "zone 1 11", "zone 1 x", "zone 12345", "zone x", "zon1", "undo", "save", "wait 1;card f;x",
-            "wait 1:", "wait 1/", "wait :", "wait /", "load : 1", "load / 1", "zone 1 :", "zone 1 /", "in 0 1:1",
+        String[] marked = {
+            "^", "^ ", "w^", "wait^", "wait ^", "wait ^x", "wait 1^ ", "wait 1;^", "wait 1;^;", "wait 1^,",
+            "wait 1234^5", "wait ^-1", "^Wait 1", "card^", "card ^", "card ^g", "card f^f", "card f^ ", "card f;^r",
+            "load 0^", "load 0 ^", "load 0^0 1", "load ^x 1", "load 0 ^x", "in 0^", "in 0 ^", "in 1^0 1", "in 0 1^ ",
+            "i^m", "out^", "out 0 1^o", "o^t", "fix 0^", "fix 0 ^-", "f^ox", "zone 1^", "zone 1 ^", "zone 1 1^1",
+            "zone 1 ^x", "zone 1234^5", "zone ^x", "zon^1", "^undo", "^save", "wait 1;card f;^x", "wait 1^:",
+            "wait 1^/", "wait ^:", "wait ^/", "load ^: 1", "load ^/ 1", "zone 1 ^:", "zone 1 ^/", "in 0 1^:1",
         };
-        int[] positions = {
-            0, 0, 1, 4, 5, 5, 6, 7, 7, 6, 9, 5,
-            0, 4, 5, 5, 6, 6, 7, 6, 7, 6,
-            5, 7, 4, 5, 4, 6, 1, 3, 7, 1, 5, 6,
-            1, 6, 7, 8, 7, 9, 5, 3, 0, 0, 14,
-            6, 6, 5, 5, 5, 5, 7, 7, 6,
-        };
-        p.same("texts", texts.length, positions.length);
-        for (int i = 0; i < texts.length; i++) {
+        for (String text : marked) {
+            int position = text.indexOf('^');
+            String script = text.replace("^", "");
             MetroFares x = Metros.untyped();
-            p.same(texts[i], Check.thrown(ARGUMENT), Metros.run(x, texts[i]));
-            p.same("error position of " + texts[i], positions[i], x.errorPosition());
-            p.same("the index of the failed command is as before " + texts[i], 1, x.failedCommand());
-            p.same("nothing takes effect: " + texts[i], notRun(), afterRun(texts[i]));
+            p.same(text, Check.thrown(ARGUMENT), Metros.run(x, script));
+            p.same("error position of " + text, position, x.errorPosition());
+            p.same("the index of the failed command is as before " + text, 1, x.failedCommand());
+            p.same("nothing takes effect: " + text, notRun(), afterRun(script));
         }
     }
 

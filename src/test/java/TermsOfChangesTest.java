@@ -53,7 +53,9 @@ final class TermsOfChangesTest {
         p.same("a 60th", 60, x.type('e'));
         p.refused("too early an end", ARGUMENT, x::runScript);
         p.same("too early an end", 60, x.errorPosition());
-        p.same("60 characters run", "6", Metros.run(x, "load 0 0001;load 0 0002;load 0 0003;load 0 04;in 0 00;wait 1"));
+        String whole = "load 0 0001;load 0 0002;load 0 0003;load 0 04;in 0 00;wait 1";
+        p.same("length", 60, whole.length());
+        p.same("60 characters run", "6", Metros.run(x, whole));
         p.same("all of them", 10, x.balance(0));
         p.same("all of them", 1, x.time());
     }
@@ -113,8 +115,6 @@ final class TermsOfChangesTest {
         String before = "card r;load 3 9999;zone 0 6;in 3 1;out 1 0;fix 1 0;";
         for (String fail : fails) {
             MetroFares twin = Metros.untyped();
-            p.same("all but " + fail, "6", Metros.run(twin, before.substring(0, before.length() - 1)));
-            twin = Metros.untyped();
             MetroFares x = Metros.untyped();
             p.same("none: " + fail, Check.thrown(STATE), Metros.run(x, before + fail));
             p.same("none: " + fail, 6, x.failedCommand());
@@ -123,6 +123,7 @@ final class TermsOfChangesTest {
             p.same("none: " + fail, View.of(twin), View.of(x));
             p.same("none: " + fail, View.undone(twin), View.undone(x));
         }
+        p.same("all", "6", Metros.run(Metros.untyped(), before.substring(0, before.length() - 1)));
         MetroFares x = Metros.with("f");
         p.same("in order", "4", Metros.run(x, "in 0 0;wait 1;out 0 3;in 0 3"));
         p.same("the later ones after the earlier ones", 0, x.journeyStart(0));

@@ -98,12 +98,12 @@ final class TotalsTest {
         p.same("a repaired one is incomplete", 2, x.incompleteTrips());
     }
 
-    /** Trips of card 0 that are charged 1 cent (at most 700 of them a day) or, if incomplete, 1 cent. */
+    /** Complete trips, and then incomplete ones, with a complete one after each of these; fares are 1 cent. */
     private static MetroFares trips(int complete, int incomplete) {
         MetroFares x = Metros.with("f");
         x.setFares(1, 0);
         for (int i = 0; i < complete; i++) {
-            Metros.ride(x, 0, i % 2 * 5, 11);
+            Metros.ride(x, 0, 0, 0);
         }
         for (int i = 0; i < incomplete; i++) {
             x.tapIn(0, 0);
