@@ -81,6 +81,11 @@ public final class ReferenceTest {
         return values[pick(values.length)];
     }
 
+    /** One of the values, or rarely a number far away from all that is allowed. */
+    private int oneOfOrFar(int... values) {
+        return pick(4) == 0 ? oneOf(Integer.MIN_VALUE, Integer.MAX_VALUE, 1 << 30, 65536) : oneOf(values);
+    }
+
     private void ask(String name, Object... args) {
         if (!isRight || told.size() >= CALLS) {
             return;
@@ -112,11 +117,11 @@ public final class ReferenceTest {
 
     private int someCard() {
         int count = known("cardCount");
-        return pick(25) == 0 || count == 0 ? oneOf(-1, count, 8, 9) : pick(count);
+        return pick(25) == 0 || count == 0 ? oneOfOrFar(-1, count, 8, 9) : pick(count);
     }
 
     private int someStation() {
-        return pick(30) == 0 ? oneOf(-1, 12, 9999, -12) : pick(3) == 0 ? pick(12) : pick(4);
+        return pick(30) == 0 ? oneOfOrFar(-1, 12, 9999, -12) : pick(3) == 0 ? pick(12) : pick(4);
     }
 
     private int someMinutes() {
@@ -128,7 +133,7 @@ public final class ReferenceTest {
             case 2:
                 return oneOf(1259, 1260, 1261, 1439, 1440, 1441, 2000);
             case 3:
-                return pick(10) == 0 ? oneOf(0, -1, 2001, 9999) : 1;
+                return pick(10) == 0 ? oneOfOrFar(0, -1, 2001, 9999) : 1;
             default:
                 return 1 + pick(14);
         }
@@ -142,7 +147,7 @@ public final class ReferenceTest {
                 }
                 break;
             case 1:
-                ask("load", someCard(), oneOf(1, 9999, 300, 1000, 0, 10000, 1 + pick(9999)));
+                ask("load", someCard(), oneOf(1, 9999, 300, 1000, oneOfOrFar(0, 10000), 1 + pick(9999)));
                 break;
             case 2: case 3: case 4: case 5:
                 ask("tapIn", someCard(), someStation());
